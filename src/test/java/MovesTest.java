@@ -77,6 +77,7 @@ final class MovesTest {
         x.end(60);
         x.end(1);
         CHECKS.refused("ended ones keep their room", UnsupportedOperationException.class, () -> x.move(0, 1, 0, 1));
+        CHECKS.refused("end 61", NoSuchElementException.class, () -> x.end(61));
         CHECKS.same("moves", x.count(1), 60);
         CHECKS.same("open moves", x.count(4), 58);
         CHECKS.same("come", x.booked(1, 0), 2);

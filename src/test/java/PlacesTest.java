@@ -45,6 +45,8 @@ final class PlacesTest {
         CHECKS.refused("place 21", UnsupportedOperationException.class, () -> x.place(0));
         CHECKS.refused("place 21 of no class", IllegalArgumentException.class, () -> x.place(3));
         CHECKS.same("places after refusal", x.count(0), 20);
+        CHECKS.refused("booked at place 20", NoSuchElementException.class, () -> x.booked(20, 0));
+        CHECKS.refused("booked at place 21", NoSuchElementException.class, () -> x.booked(21, 0));
     }
 
     private static void placeRefuses() {

@@ -1,5 +1,6 @@
 import java.util.ArrayList;
 import java.util.List;
+import java.util.NoSuchElementException;
 
 /** Promise 11 (round). */
 final class RoundsTest {
@@ -161,5 +162,6 @@ final class RoundsTest {
         CHECKS.refused("no class before no room", IllegalArgumentException.class, () -> x.round(3, 1, 0));
         CHECKS.refused("no room again: nothing was taken", UnsupportedOperationException.class, () -> x.round(0, 1, 0));
         CHECKS.same("counts", x.count(2), 20);
+        CHECKS.refused("count 21", NoSuchElementException.class, () -> x.told(21, 0));
     }
 }
