@@ -3,6 +3,7 @@ final class Checks {
     private final String test;
     private int made;
     private int wrong;
+    private String about = "";
 
     Checks(String test) {
         this.test = test;
@@ -11,6 +12,11 @@ final class Checks {
     /** A call that may be refused. */
     interface Call {
         void make();
+    }
+
+    /** What the checks from now on are about, told with each that fails. */
+    void about(String words) {
+        about = words;
     }
 
     void same(String what, long got, long due) {
@@ -27,7 +33,10 @@ final class Checks {
         }
     }
 
-    /** The exception's very class counts: one below it would not be what the document names. */
+    /**
+     * The exception's very class counts: one below it would not be what the document names. A division's own
+     * exception would be of the due class too, but the program must throw it before it divides.
+     */
     void refused(String what, Class<? extends RuntimeException> due, Call call) {
         made++;
         Class<?> got = null;
@@ -35,6 +44,9 @@ final class Checks {
             call.make();
         } catch (RuntimeException e) {
             got = e.getClass();
+            if ("/ by zero".equals(e.getMessage())) {
+                tell(what + " divided by 0");
+            }
         }
         if (got != due) {
             tell(what + " threw " + (got == null ? "nothing" : got.getSimpleName()) + ", due is " + due.getSimpleName());
@@ -50,6 +62,6 @@ final class Checks {
 
     private void tell(String fault) {
         wrong++;
-        System.out.println(test + ": " + fault);
+        System.out.println(test + ": " + fault + (about.isEmpty() ? "" : " [" + about + "]"));
     }
 }

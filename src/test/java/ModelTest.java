@@ -118,7 +118,7 @@ final class ModelTest {
                 return random.nextInt(3);
             case "stock0": case "move0": case "move1": case "moves0": case "found1": case "second1": case "last0":
             case "booked0":
-                return random.nextInt(Math.max(1, program.count(0)));
+                return random.nextInt(Math.max(1, model.count(0)));
             case "stock1": case "move2": case "found2": case "second2": case "booked1": case "right0": case "found4":
             case "correct2": case "differ2":
                 return random.nextInt(6);
@@ -133,11 +133,11 @@ final class ModelTest {
             case "setting0": case "share0":
                 return random.nextInt(2);
             case "day0":
-                return Math.min(10000, program.count(3) + random.nextInt(12) - 1);
+                return Math.min(10000, model.count(3) + random.nextInt(12) - 1);
             case "due0":
-                return Math.min(10000, program.count(3) + random.nextInt(50));
+                return Math.min(10000, model.count(3) + random.nextInt(50));
             case "end0":
-                return 1 + random.nextInt(Math.max(1, program.count(1)));
+                return 1 + random.nextInt(Math.max(1, model.count(1)));
             case "round0":
                 return random.nextInt(4) - 1;
             case "round1":
@@ -145,7 +145,7 @@ final class ModelTest {
             case "round2":
                 return random.nextBoolean() ? 0 : random.nextLong();
             case "freeze0": case "found0": case "second0": case "close0": case "differ0": case "correct0": case "told0":
-                return Math.max(1, program.count(2) - random.nextInt(4));
+                return Math.max(1, model.count(2) - random.nextInt(4));
             case "differ1": case "correct1":
                 return random.nextInt(random.nextBoolean() ? 3 : 12);
             case "told1":
