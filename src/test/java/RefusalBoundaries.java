@@ -33,6 +33,7 @@ final class RefusalBoundaries {
         wrongNumbersLeaveAllAsItWas();
         wrongStatesLeaveAllAsItWas();
         noRoomLeavesAllAsItWas();
+        noTimesLeaveAllAsItWas();
         brokenFindingsLeaveAllAsItWas();
     }
 
@@ -326,6 +327,17 @@ final class RefusalBoundaries {
             x.close(count);
         }
         return x;
+    }
+
+    private void noTimesLeaveAllAsItWas() {
+        sentences.test("Promise 18", "ArithmeticException (the machine's own) if there were none.");
+        for (int side = 0; side < 2; side++) {
+            int of = side;
+            CountRounds x = Scenes.frozen(2);
+            checks.refused("a share of no times", ArithmeticException.class, () -> x.share(of));
+            checks.holds("after a share of no times all is as it was: this",
+                    Fingerprint.of(x).equals(Fingerprint.of(Scenes.frozen(2))));
+        }
     }
 
     /** What found answers below 0 is a refusal too, though none of the sentence's. */
