@@ -227,10 +227,7 @@ public final class CountRounds {
 
     public int differ(int count, int i, int what) throws NoSuchElementException, IllegalArgumentException {
         Sheet sheet = sheetNumbered(count);
-        int line = sheet.differingLine(i);
-        if (line == NONE) {
-            throw new NoSuchElementException("no such difference");
-        }
+        int line = lineOfDifference(sheet, i);
         switch (what) {
             case 0:
                 return sheet.members[line / GOODS];
@@ -252,10 +249,7 @@ public final class CountRounds {
     public boolean correct(int count, int i, int person)
             throws NoSuchElementException, IllegalArgumentException, IllegalStateException {
         Sheet sheet = sheetNumbered(count);
-        int line = sheet.differingLine(i);
-        if (line == NONE) {
-            throw new NoSuchElementException("no such difference");
-        }
+        int line = lineOfDifference(sheet, i);
         if (!isPerson(person)) {
             throw new IllegalArgumentException("no such person");
         }
@@ -395,6 +389,15 @@ public final class CountRounds {
             throw new NoSuchElementException("no such count");
         }
         return sheet;
+    }
+
+    /** A count that is not ended has no differences yet. */
+    private static int lineOfDifference(Sheet sheet, int i) {
+        int line = sheet.differingLine(i);
+        if (line == NONE) {
+            throw new NoSuchElementException("no such difference");
+        }
+        return line;
     }
 
     private int openMoves() {
